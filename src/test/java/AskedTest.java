@@ -105,8 +105,9 @@ public final class AskedTest {
         // By what is under them less 6 the first of two owes 14 % 12, the second 9 % 12.
         Kit.law(x, "left % 12");
         Kit.due("n less under it", x.cheapest(0, 0, 6, 1), 0);
-        Kit.law(x, "200 - kin * 5 * nights - night");
-        Kit.due("the nights", x.cheapest(1, 0, 6, 1), 1);
+        // 18 and 13 of them: with 2 more under each it would be 22 % 12 and 17 % 12.
+        Kit.due("n less, not more", x.cheapest(0, 0, 2, 1), 1);
+        cheapestByNights();
         Kit.work(x, "seal 0;");
         Kit.due("sealed", x.cheapest(0, 0, 10, 5), 1);
         Kit.illegal("kind 6", () -> x.cheapest(0, 6, 1, 1));
@@ -115,6 +116,23 @@ public final class AskedTest {
         Kit.illegal("t 0", () -> x.cheapest(0, 0, 1, 0));
         Kit.illegal("t 41", () -> x.cheapest(0, 0, 1, 41));
         Kit.noSuch("soul 3", () -> x.cheapest(3, 9, 0, 0));
+    }
+
+    /** The one is cheap for kin, the other by what is under it: the law's facts tell which counts. */
+    private static void cheapestByNights() {
+        CryptBank x = Kit.bank("slab 0 20;slab 0 15;soul 5 5;kin 0 0;");
+        Kit.work(x, "again 10[night;];");
+        Kit.law(x, "most[0,(night-13)*100]*kin + left");
+        Kit.due("night 12", x.cheapest(0, 0, 1, 2), 1);
+        Kit.law(x, "most[0,13-night]*100*(1-kin) + left");
+        Kit.due("night 12, before 13", x.cheapest(0, 0, 1, 2), 0);
+        Kit.due("night 13", x.cheapest(0, 0, 1, 3), 1);
+        Kit.law(x, "most[0,nights-2]*100*kin + (20-left)");
+        Kit.due("in two nights", x.cheapest(0, 0, 1, 2), 0);
+        Kit.due("in three nights", x.cheapest(0, 0, 1, 3), 1);
+        Kit.law(x, "amount*kin*10 + (20-left)*9");
+        Kit.due("of one", x.cheapest(0, 0, 1, 1), 0);
+        Kit.due("of nine", x.cheapest(0, 0, 9, 1), 1);
     }
 
     private static CryptBank owing() {
@@ -128,6 +146,9 @@ public final class AskedTest {
         Kit.part("promise 17");
         CryptBank x = owing();
         Kit.due("most loans, then least owed", x.clears(0), 4 + 8 + 16);
+        Kit.work(x, "earn 0 1;");
+        Kit.due("of as many the least owed, not the first", x.clears(0), 4 + 8 + 16);
+        x.undo();
         Kit.due("all", x.clears(1), 2 + 32);
         Kit.law(x, "amount + 4");
         Kit.due("of alike ones the least bits", x.clears(0), 4 + 8);
@@ -332,6 +353,13 @@ public final class AskedTest {
         Kit.due("nothing stays changed", x.told(2) + x.told(3) + x.told(4), 0);
         CryptBank bare = Kit.bank("slab 0 60;");
         Kit.due("without souls", bare.winter(7, 16, 96, 1), 60);
+        CryptBank ground = Kit.bank("soul 9 99;");
+        Kit.due("without slabs", ground.winter(7, 16, 96, 0) + ground.winter(7, 16, 96, 1), 0);
+        Kit.due("without slabs no standing falls", ground.span(7, 9, 0, 96, 2, 0), 0);
+        // 22117 by 9 is 4: due in night 5, overdue and sealed in night 6.
+        CryptBank one = Kit.bank("slab 0 9;soul 9 99;");
+        Kit.due("not yet", one.winter(0, 0, 5, 2), 0);
+        Kit.due("sealed", one.winter(0, 0, 6, 2), 1);
         CryptBank led = Kit.bank("slab 0 60;soul 9 99;");
         Kit.work(led, "lend 0 0 1 1;pay 0;lend 0 0 2 1;");
         Kit.due("paid in it, not by now", led.winter(0, 0, 9, 3), 0);
@@ -361,6 +389,7 @@ public final class AskedTest {
         }
         Kit.due("none pays: all fall", x.span(3, 20, 0, 96, 2, 1), 20);
         Kit.due("one night: none falls", x.span(3, 20, 0, 1, 2, 1), 0);
+        Kit.due("one seed", x.span(7, 1, 5, 30, 0, 0), x.winter(7, 5, 30, 1));
         Kit.illegal("many 0", () -> x.span(0, 0, 0, 1, 0, 0));
         Kit.illegal("many 21", () -> x.span(0, 21, 0, 1, 0, 0));
         Kit.illegal("q 17", () -> x.span(0, 1, 17, 1, 0, 0));

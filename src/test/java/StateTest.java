@@ -133,11 +133,15 @@ public final class StateTest {
         // What is owed knows the loan, its slab and its soul as they are by now.
         Kit.law(x, "amount*0+kind*100+kin*50+standing*5+left+night+soul");
         Kit.due("by the law", x.loan(2, 6), 100 + 50 + 25 + 0 + 2 + 2);
+        Kit.due("no kin", x.loan(0, 6), 0 + 0 + 10 + 8 + 2 + 0);
         Kit.law(x, "nights*10+amount");
         Kit.due("nights since", x.loan(4, 6), 6);
         Kit.due("nights since", x.loan(3, 6), 24);
         Kit.illegal("loan(0, 7)", () -> x.loan(0, 7));
         Kit.illegal("loan(0, -1)", () -> x.loan(0, -1));
+        CryptBank full = Kit.bank("slab 0 60;soul 9 99;kin 0 0;");
+        Kit.work(full, "again 10[lend 0 0 1 1;];night;night;pay 9;open 0;lend 0 0 1 1;");
+        Kit.due("a new loan in the place of an overdue one", full.loan(9, 5), 0);
         Kit.noSuch("loan(5, 7)", () -> x.loan(5, 7));
         Kit.noSuch("loan(-1, 0)", () -> x.loan(-1, 0));
     }
@@ -262,6 +266,7 @@ public final class StateTest {
         Kit.due("how much", x.poorest(1), 4);
         Kit.work(x, "earn 1 1;");
         Kit.due("which then", x.poorest(0), 2);
+        Kit.due("the first of all", Kit.bank("soul 1 0;soul 1 0;").poorest(0), 0);
         Kit.due("none", new CryptBank().poorest(0), -1);
         Kit.due("none", new CryptBank().poorest(1), -1);
         Kit.illegal("poorest(2)", () -> x.poorest(2));
@@ -303,7 +308,30 @@ public final class StateTest {
         Kit.due("the book stays", x.told(9), 1);
         Kit.due("undo behind restore", x.undo(), 0);
         Kit.due("loans then", x.told(2), 0);
+        Kit.due("under 0 then", x.slab(0, 1), 20);
+        imageOfPast();
         Kit.due("no more", x.restore(), -1);
+    }
+
+    /** What an image keeps of past works is not what was done since in their place. */
+    private static void imageOfPast() {
+        CryptBank x = Kit.bank(TOWN);
+        Kit.work(x, "night;");
+        Kit.work(x, "night;");
+        x.image();
+        x.undo();
+        x.undo();
+        Kit.work(x, "earn 0 5;");
+        Kit.work(x, "earn 0 5;");
+        Kit.work(x, "earn 0 5;");
+        Kit.due("restore", x.restore(), 0);
+        Kit.due("works", x.count(2), 2);
+        Kit.due("undo", x.undo(), 1);
+        Kit.due("night", x.told(3), 1);
+        Kit.due("purse", x.soul(0, 2), 40);
+        Kit.due("undo", x.undo(), 0);
+        Kit.due("night", x.told(3), 0);
+        Kit.due("purse", x.soul(0, 2), 40);
     }
 
     private static void status() {

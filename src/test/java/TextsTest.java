@@ -71,6 +71,7 @@ public final class TextsTest {
         Kit.due("its kind", x.slab(0, 0), 5);
         Kit.due("kin once more", Kit.county(x, "slab 0 1;soul 0 1;kin 0 0;kin 0 0;"), 1);
         Kit.due("kin is as once", x.slab(0, 5), 1);
+        Kit.due("kin are not kept", Kit.county(x, "slab 0 1;soul 0 1;") + x.slab(0, 5), 1);
         Kit.due("blanks alone", Kit.county(x, "    "), 0);
         Kit.due("told(1) then", x.told(1), 0);
         countyForgets();
@@ -129,6 +130,7 @@ public final class TextsTest {
         countyFault("slab 0 0 0;", -9, 9);
         countyFault("slabs 0 0;", -9, 0);
         countyFault("Slab 0 0;", -9, 0);
+        countyFault("xlab 0 0;", -9, 0);
         countyFault(";", -9, 0);
         countyFault("slab 6 99;", -8, 5);
         countyFault("slab 5 61;", -8, 7);
@@ -203,6 +205,8 @@ public final class TextsTest {
         lawFault("least[1,(((((most[1,2])))))]", -7, 13);
         lawFault("least[1,((((most[1,2]))))]", 1, -1);
         lawFault("most[(1),((((((2))))))]", -7, 14);
+        lawFault("most[(((((1))))),2]", 1, -1);
+        lawFault("most[((((((1)))))),2]", -7, 10);
         lawFault("(1)+(1)+(1)+(1)+(1)+(1)+(1)+(1)", 1, -1);
     }
 
