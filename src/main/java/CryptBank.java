@@ -117,7 +117,7 @@ public final class CryptBank {
             return tape.faultAnswer();
         }
         page.keep();
-        work.carryOut(rules, page.now);
+        work.carryOut(rules, page.now, 0, work.steps, 0);
         refusedSteps = work.refused;
         return work.done;
     }
@@ -494,13 +494,14 @@ public final class CryptBank {
         needRange(nights, 1, 96);
         needRange(what, 0, 2);
         needArgument(soul >= 0 && soul < county.souls);
-        int least = Integer.MAX_VALUE;
-        int most = 0;
+        int least = NONE;
+        int most = NONE;
         int fallen = 0;
         for (int i = 0; i < many; i++) {
             dreamWinter(seed + i, q, nights);
-            least = Math.min(least, underAll(dream));
-            most = Math.max(most, underAll(dream));
+            int under = underAll(dream);
+            least = least == NONE ? under : Math.min(least, under);
+            most = Math.max(most, under);
             fallen += dream.standing(soul) == 0 ? 1 : 0;
         }
         if (what == 0) {
@@ -857,7 +858,7 @@ public final class CryptBank {
         }
 
         boolean isKin(int soul, int slab) {
-            return (kinOf(slab) >> soul & 1) == 1;
+            return (entry(kin, slab) >> soul & 1) == 1;
         }
 
         int toldStanding(int soul) {
@@ -1157,6 +1158,9 @@ public final class CryptBank {
 
         boolean read(Tape tape, County county) {
             steps = 0;
+            begun = 0;
+            done = 0;
+            refused = 0;
             slabs = county.slabs;
             souls = county.souls;
             return readSteps(tape, 0);
@@ -1228,18 +1232,12 @@ public final class CryptBank {
             return tape.takeSign(']');
         }
 
-        void carryOut(Rules rules, State state) {
-            begun = 0;
-            done = 0;
-            refused = 0;
-            carryOutPart(rules, state, 0, steps, 0);
-        }
-
         private int field(int step, int field) {
             return entry(row, step * STEP_SIZE + field);
         }
 
-        private void carryOutPart(Rules rules, State state, int from, int to, int open) {
+        /** Does the STEPS of a part once; what was begun, done, refused is counted on. */
+        void carryOut(Rules rules, State state, int from, int to, int open) {
             int step = from;
             while (step < to && step < MOST_STEPS && begun < MOST_BEGUN && open <= MOST_OPEN) {
                 begun++;
@@ -1247,7 +1245,7 @@ public final class CryptBank {
                 if (field(step, 0) == AGAIN) {
                     behind = Math.max(behind, field(step, BEHIND));
                     for (int i = 0; i < field(step, 1) && begun < MOST_BEGUN; i++) {
-                        carryOutPart(rules, state, step + 1, behind, open + 1);
+                        carryOut(rules, state, step + 1, behind, open + 1);
                     }
                 } else if (isDone(rules, state, step)) {
                     done++;
@@ -1376,36 +1374,36 @@ public final class CryptBank {
         }
 
         int night() {
-            return entry(row, NIGHT);
+            return row[NIGHT];
         }
 
         void addNight() {
-            setEntry(row, NIGHT, night() + 1);
+            row[NIGHT]++;
         }
 
         int sealedSlabs() {
-            return entry(row, SEALED);
+            return row[SEALED];
         }
 
         boolean isSealed(int slab) {
-            return (sealedSlabs() >> slab & 1) == 1;
+            return (row[SEALED] >> slab & 1) == 1;
         }
 
         void setSealed(int slab, boolean shut) {
-            int others = sealedSlabs() & ~(1 << slab);
-            setEntry(row, SEALED, shut ? others | 1 << slab : others);
+            int others = row[SEALED] & ~(1 << slab);
+            row[SEALED] = shut ? others | 1 << slab : others;
         }
 
         int paid() {
-            return entry(row, PAID);
+            return row[PAID];
         }
 
         int loans() {
-            return entry(row, LOANS);
+            return row[LOANS];
         }
 
         boolean hasLoan(int loan) {
-            return loan >= 0 && loan < loans();
+            return loan >= 0 && loan < row[LOANS];
         }
 
         int under(int slab) {
@@ -1449,7 +1447,7 @@ public final class CryptBank {
         }
 
         void addLoan(int soul, int slab, int n, int t) {
-            int loan = loans();
+            int loan = row[LOANS];
             if (loan < MOST_LOANS) {
                 setOfLoan(loan, OF_SOUL, soul);
                 setOfLoan(loan, OF_SLAB, slab);
@@ -1457,7 +1455,7 @@ public final class CryptBank {
                 setOfLoan(loan, TAKEN, night());
                 setOfLoan(loan, DUE, night() + t);
                 setOfLoan(loan, OVERDUE, 0);
-                setEntry(row, LOANS, loan + 1);
+                row[LOANS] = loan + 1;
             }
         }
 
@@ -1467,8 +1465,8 @@ public final class CryptBank {
                 for (int i = LOAN + loan * LOAN_SIZE; i + LOAN_SIZE < row.length; i++) {
                     row[i] = row[i + LOAN_SIZE];
                 }
-                setEntry(row, LOANS, loans() - 1);
-                setEntry(row, PAID, paid() + 1);
+                row[LOANS]--;
+                row[PAID]++;
             }
         }
 

@@ -49,11 +49,14 @@ public final class FaceTest {
                         + (ints ? " of int" : " of others"));
             } else {
                 Kit.due("private: " + method.getName(), Modifier.isPrivate(method.getModifiers()), true);
-                Kit.due("no public name: " + method.getName(), document.contains(" " + method.getName() + "(int "), false);
             }
         }
         Kit.due("methods " + got + " for " + wanted, got.equals(wanted), true);
         Kit.due("methods", got.size(), 40);
+        for (Method method : CryptBank.class.getDeclaredMethods()) {
+            boolean named = got.stream().anyMatch(g -> g.contains(" " + method.getName() + " "));
+            Kit.due("public or of another name: " + method, named, Modifier.isPublic(method.getModifiers()));
+        }
         for (Field field : CryptBank.class.getDeclaredFields()) {
             boolean none = field.getName().equals("NONE");
             Kit.due("field " + field.getName(), none || Modifier.isPrivate(field.getModifiers()), true);
@@ -65,6 +68,10 @@ public final class FaceTest {
         Kit.due("classes", CryptBank.class.getDeclaredClasses().length <= 12, true);
         for (Class<?> inner : CryptBank.class.getDeclaredClasses()) {
             Kit.due("static " + inner, Modifier.isStatic(inner.getModifiers()), true);
+            for (Method method : inner.getDeclaredMethods()) {
+                Kit.due("no public name: " + method, got.stream().anyMatch(g -> g.contains(" " + method.getName() + " ")),
+                        false);
+            }
             Kit.due("fields of " + inner, Arrays.stream(inner.getDeclaredFields())
                     .filter(f -> !Modifier.isStatic(f.getModifiers())).count() <= 20, true);
         }
