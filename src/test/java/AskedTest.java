@@ -102,11 +102,9 @@ public final class AskedTest {
         Kit.due("kin alone", x.cheapest(1, 0, 5, 3), 1);
         Kit.law(x, "left");
         Kit.due("less under the slab", x.cheapest(0, 0, 15, 1), 1);
-        // By what is under them less 6 the first of two owes 14 % 12, the second 9 % 12.
-        Kit.law(x, "left % 12");
-        Kit.due("n less under it", x.cheapest(0, 0, 6, 1), 0);
-        // 18 and 13 of them: with 2 more under each it would be 22 % 12 and 17 % 12.
-        Kit.due("n less, not more", x.cheapest(0, 0, 2, 1), 1);
+        // 12 % 11 and 7 % 11; with 8 more under each it would be 28 % 11 and 23 % 11.
+        Kit.law(x, "left % 11");
+        Kit.due("n less under it", x.cheapest(0, 0, 8, 1), 0);
         cheapestByNights();
         Kit.work(x, "seal 0;");
         Kit.due("sealed", x.cheapest(0, 0, 10, 5), 1);
@@ -154,6 +152,8 @@ public final class AskedTest {
         Kit.due("of alike ones the least bits", x.clears(0), 4 + 8);
         Kit.law(x, "8");
         Kit.due("the first two", x.clears(0), 1 + 4);
+        Kit.law(x, "20");
+        Kit.due("the first alone", x.clears(0), 1);
         Kit.law(x, "0");
         Kit.due("owing nothing", x.clears(0), 1 + 4 + 8 + 16);
         Kit.law(x, "amount * 20");

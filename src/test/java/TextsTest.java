@@ -131,6 +131,7 @@ public final class TextsTest {
         countyFault("slabs 0 0;", -9, 0);
         countyFault("Slab 0 0;", -9, 0);
         countyFault("xlab 0 0;", -9, 0);
+        countyFault("slabz 0 0;", -9, 0);
         countyFault(";", -9, 0);
         countyFault("slab 6 99;", -8, 5);
         countyFault("slab 5 61;", -8, 7);
@@ -164,6 +165,13 @@ public final class TextsTest {
         Kit.illegal("law(21)", () -> x.law(21));
         Kit.illegal("law(-1)", () -> x.law(-1));
         Kit.due("the first byte alone", x.law(1), 1);
+        Kit.feed(x, "77");
+        Kit.due("one digit of two", x.law(1), 1);
+        Kit.due("by that digit", x.would(1, 0, 0, 0, 0, 0, 0, 0), 7);
+        Kit.feed(x, "kind");
+        Kit.due("three letters of four", x.law(3), 1);
+        Kit.due("by that word", x.would(1, 0, 5, 1, 0, 0, 0, 0), 1);
+        Kit.law(x, "1");
         Kit.work(x, "lend 0 0 9 1;");
         Kit.due("owed by the new law", x.loan(0, 6), 1);
         Kit.due("works stay with a law", x.count(2), 1);
@@ -198,6 +206,7 @@ public final class TextsTest {
         lawFault("kind2", -9, 4);
         lawFault("1 + 1000 + x", -8, 4);
         lawFault("99999999999999999999999", -8, 0);
+        lawFault("2*1000", -8, 2);
         lawFault("((((((1))))))", 1, -1);
         lawFault("(((((((1)))))))", -7, 6);
         lawFault("((((((least", -7, 6);
