@@ -39,14 +39,17 @@ public final class FaceTest {
         Matcher matcher = FACE_METHOD.matcher(document);
         while (matcher.find()) {
             int numbers = matcher.group(3).isBlank() ? 0 : matcher.group(3).split(",").length;
-            wanted.add(matcher.group(1) + " " + matcher.group(2) + " " + numbers + " of int");
+            String thrown = matcher.group(5) == null ? "" : matcher.group(5).replace(",", "");
+            wanted.add(matcher.group(1) + " " + matcher.group(2) + " " + numbers + " of int throws " + thrown);
         }
         TreeSet<String> got = new TreeSet<>();
         for (Method method : CryptBank.class.getDeclaredMethods()) {
             if (Modifier.isPublic(method.getModifiers())) {
                 boolean ints = Arrays.stream(method.getParameterTypes()).allMatch(t -> t == int.class);
+                String thrown = Arrays.stream(method.getExceptionTypes()).map(Class::getSimpleName)
+                        .collect(Collectors.joining(" "));
                 got.add(method.getReturnType() + " " + method.getName() + " " + method.getParameterCount()
-                        + (ints ? " of int" : " of others"));
+                        + (ints ? " of int" : " of others") + " throws " + thrown);
             } else {
                 Kit.due("private: " + method.getName(), Modifier.isPrivate(method.getModifiers()), true);
             }

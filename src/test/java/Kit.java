@@ -4,6 +4,16 @@ final class Kit {
     private static int asked;
     private static String part = "";
 
+    /** A call on a bank, whatever it answers. */
+    interface Call {
+        void on(CryptBank bank);
+    }
+
+    /** One of the four calls that take a text. */
+    interface Taker {
+        int take(CryptBank bank, String text);
+    }
+
     private Kit() {
     }
 
@@ -21,6 +31,19 @@ final class Kit {
 
     static void due(String what, boolean got, boolean want) {
         due(what, got ? 1 : 0, want ? 1 : 0);
+    }
+
+    static void same(String what, String got, String want) {
+        asked++;
+        if (!got.equals(want)) {
+            wrong++;
+            System.out.println(part + ": " + what + " answered\n  " + got + "\ndue is\n  " + want);
+        }
+    }
+
+    /** Long rows of one sign are told by their length. */
+    static String shown(String text) {
+        return text.length() <= 80 ? text : text.substring(0, 76) + ".. (" + text.length() + " bytes)";
     }
 
     static void noSuch(String what, Runnable call) {
