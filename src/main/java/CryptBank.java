@@ -1236,8 +1236,11 @@ public final class CryptBank {
             return entry(row, step * STEP_SIZE + field);
         }
 
-        /** Does the STEPS of a part once; what was begun, done, refused is counted on. */
-        void carryOut(Rules rules, State state, int from, int to, int open) {
+        /**
+         * Does the STEPS of a part once; what was begun, done, refused is counted on.
+         * Private, though the bank calls it, as is all that calls itself (LANGUAGE.md, rule 8).
+         */
+        private void carryOut(Rules rules, State state, int from, int to, int open) {
             int step = from;
             while (step < to && step < MOST_STEPS && begun < MOST_BEGUN && open <= MOST_OPEN) {
                 begun++;

@@ -3,7 +3,9 @@ import java.io.StringWriter;
 import java.net.URISyntaxException;
 import java.nio.file.Files;
 import java.nio.file.Path;
+import java.util.ArrayDeque;
 import java.util.ArrayList;
+import java.util.Deque;
 import java.util.HashSet;
 import java.util.List;
 import java.util.Map;
@@ -14,7 +16,7 @@ import java.util.regex.Matcher;
 import java.util.regex.Pattern;
 import java.util.spi.ToolProvider;
 
-/** Calls of the class's own methods go at most eight deep, each method of a recursion counted once. */
+/** Calls of the class's own methods go at most eight deep, each of a recursion counted once; those are private. */
 public final class DepthTest {
     private static final int MOST_DEEP = 8;
     private static final Pattern CLASS = Pattern.compile("^.*class (CryptBank[\\w$]*).*\\{$");
@@ -23,6 +25,7 @@ public final class DepthTest {
 
     private static final Map<String, Set<String>> CALLS = new TreeMap<>();
     private static final Set<String> FACE = new TreeSet<>();
+    private static final Set<String> PRIVATE = new TreeSet<>();
 
     private DepthTest() {
     }
@@ -40,7 +43,33 @@ public final class DepthTest {
             Kit.due("depth of " + chain, chain.size() <= MOST_DEEP, true);
         }
         System.out.println("the deepest: " + deepest);
+        recursions();
         Kit.end();
+    }
+
+    /** LANGUAGE.md, rule 8: what calls itself, straight or through others, is private. */
+    private static void recursions() {
+        Kit.part("recursion");
+        int seen = 0;
+        for (String method : CALLS.keySet()) {
+            if (reached(method).contains(method)) {
+                seen++;
+                Kit.due("private: " + method, PRIVATE.contains(method), true);
+            }
+        }
+        Kit.due("methods of recursions are found", seen > 0, true);
+    }
+
+    private static Set<String> reached(String from) {
+        Set<String> seen = new TreeSet<>();
+        Deque<String> open = new ArrayDeque<>(CALLS.get(from));
+        while (!open.isEmpty()) {
+            String method = open.remove();
+            if (seen.add(method)) {
+                open.addAll(CALLS.getOrDefault(method, Set.of()));
+            }
+        }
+        return seen;
     }
 
     private static String disassembled() throws Exception {
@@ -71,6 +100,9 @@ public final class DepthTest {
             } else if (start.matches()) {
                 method = owner + "." + start.group(1);
                 CALLS.putIfAbsent(method, new TreeSet<>());
+                if (line.startsWith("  private ")) {
+                    PRIVATE.add(method);
+                }
                 if (line.startsWith("  public ") && !start.group(1).equals("CryptBank")) {
                     FACE.add(method);
                 }
